@@ -25,16 +25,34 @@ final class Check {
     /** Feeds a text to THE TAPE. */
     static void type(TwoSeas sea, String text) {
         for (int i = 0; i < text.length(); i++) {
-            due("feed of " + text.charAt(i), sea.feed(text.charAt(i), 1), sea.count(6) + 0L);
+            sea.feed(text.charAt(i), 1);
         }
     }
 
-    /** Writes an order for a factory and answers what order() does. */
+    /** Types an order for a factory and answers what order() does. */
     static int write(TwoSeas sea, int factory, String text) {
-        for (int i = 0; i < text.length(); i++) {
-            sea.feed(text.charAt(i), 1);
-        }
+        type(sea, text);
         return sea.order(factory);
+    }
+
+    /**
+     * A new object whose factory 1 is 20 days off both ways and has coins, with a ship 0 of 60 tons that
+     * came there on day 20 with the order, if there is one (paper 0).
+     */
+    static TwoSeas atFactory(int coins, String order) {
+        TwoSeas sea = new TwoSeas();
+        sea.factory(1, 0, 20);
+        sea.factory(1, 1, 20);
+        sea.bullion(1, coins);
+        sea.ship(0, 60);
+        sea.take();
+        if (order != null) {
+            due("order " + order, write(sea, 1, order), 0);
+            sea.copy(0, 0);
+        }
+        sea.sail(0, 1);
+        sea.days(20);
+        return sea;
     }
 
     static void end() {
