@@ -11,6 +11,7 @@ public final class BillsTest {
         drawnAgain();
         councils();
         votes();
+        councilOfTwenty();
         councilPapers();
         Check.end();
     }
@@ -163,6 +164,7 @@ public final class BillsTest {
         for (int what = 0; what < entry.length; what++) {
             Check.due("29 entry(0, " + what + ")", sea.entry(0, what), entry[what]);
         }
+        Check.due("34 keeps nothing", withCouncil(20, 4).council(2, 0, 9, 1, 0), 20);
         TwoSeas poor = withCouncil(45, 4);
         Check.due("34 as long as coins last", poor.council(2, 0, 9, 1, 0), 40);
         Check.due("34 with none it buys none", poor.council(2, 0, 9, 1, 0), 0);
@@ -190,6 +192,18 @@ public final class BillsTest {
         TwoSeas sea = withCouncil(0, ranks);
         Check.due("34 " + what, sea.council(2, 0, 1, yes, no), due);
         Check.due("34 papers: " + what, sea.count(1), due == 0 ? 1 + Integer.bitCount(no) : 0);
+    }
+
+    private static void councilOfTwenty() {
+        TwoSeas sea = new TwoSeas();
+        for (int i = 0; i < 20; i++) {
+            sea.person(4, 0);
+        }
+        sea.bullion(4, 100);
+        Check.due("34 ten of twenty are half", sea.council(4, 0, 1, 0xffc00, 0), 20);
+        Check.due("34 nine are less", sea.council(4, 0, 1, 0xff800, 0), -3);
+        Check.due("34 the twentieth counts", sea.council(4, 0, 1, 0x803ff, 0x07c00), 20);
+        Check.due("48 with a dissent for each no", sea.count(1), 1 + 1 + 5);
     }
 
     private static void councilPapers() {

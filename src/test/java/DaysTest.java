@@ -13,6 +13,7 @@ public final class DaysTest {
         entries();
         entriesKept();
         papersFull();
+        lastRoomForPapers();
         oneAfterTheOther();
         Check.end();
     }
@@ -79,6 +80,12 @@ public final class DaysTest {
         }
         sea.base(1, 0, 1);
         Check.due("28 never below the base", sea.price(1, 0), 1);
+        TwoSeas ten = Check.atFactory(10000, "buy 0 10 if day=20");
+        Check.due("28 heat 10", ten.price(1, 0), 22);
+        ten.days(1);
+        Check.due("28 heat 5", ten.price(1, 0), 21);
+        ten.days(1);
+        Check.due("28 heat 0", ten.price(1, 0), 20);
     }
 
     private static void advances() {
@@ -136,6 +143,14 @@ public final class DaysTest {
         free.days(20);
         Check.due("28 nine tenths of 1, cut, is 0 coins", free.open(1, 0), 1);
         row(free, 0, 20, 1, 1, 0, 1, 0, 0, 0);
+        free.days(49);
+        Check.due("28 one is open as long as its bale is to come", free.count(5), 1);
+        free.days(1);
+        Check.due("28 the fifth time it comes", free.stock(1, 0), 1);
+        Check.due("28 and another is given", free.count(5), 2);
+        TwoSeas fifths = Check.atFactory(1000, "advance 0 15 if day=20");
+        fifths.days(10);
+        Check.due("28 a fifth of 15", fifths.stock(1, 0), 3);
     }
 
     private static void lading() {
@@ -237,6 +252,7 @@ public final class DaysTest {
         sea.days(1);
         Check.due("29 counted still", sea.count(5), 504);
         Check.due("28 done still", sea.stock(1, 2), 168);
+        Check.due("39 no invoice", sea.gain(), 0);
     }
 
     private static void papersFull() {
@@ -256,6 +272,18 @@ public final class DaysTest {
         Check.due("28 it comes", sea.stock(0, 0), 1);
         Check.due("26 books join", sea.voyage(1, 11), 0);
         Check.due("39 what was bought is not known", sea.gain(), 0);
+    }
+
+    private static void lastRoomForPapers() {
+        TwoSeas sea = Check.atFactory(0, "draw 50 if day=21;buy 0 1;lade 0 1;sail 1 if day=22");
+        for (int i = 1; i < 148; i++) {
+            sea.letter(0, 1);
+        }
+        sea.days(1);
+        Check.due("28 room for a bill", sea.bill(148, 0), 0);
+        sea.days(1);
+        Check.due("28 room for an invoice", sea.voyage(1, 10), 149);
+        Check.due("48 full", sea.count(1), 150);
     }
 
     /** Ships by numbers, then bills, then factories: what comes that day serves that day. */

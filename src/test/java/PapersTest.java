@@ -11,6 +11,7 @@ public final class PapersTest {
         ofPapers();
         latestOrderCounts();
         orderOfReading();
+        orderOfOneDay();
         tests();
         Check.end();
     }
@@ -128,9 +129,10 @@ public final class PapersTest {
 
     private static void fullOfPapers() {
         TwoSeas sea = new TwoSeas();
-        for (int i = 0; i < 150; i++) {
+        for (int i = 0; i < 149; i++) {
             Check.due("12 number", sea.letter(i % 5, (i + 1) % 5), i);
         }
+        Check.due("11 the last there is room for", Check.write(sea, 1, "keep 1"), 149);
         Check.due("12 full", sea.letter(0, 1), -4);
         Check.due("12 bad ahead of full", sea.letter(1, 1), -2);
         Check.type(sea, "keep 1");
@@ -306,6 +308,26 @@ public final class PapersTest {
         Check.due("16 of four", sea.force(1), due.length);
         for (int i = 0; i < due.length; i++) {
             Check.due("17 by reading, forced(1, " + i + ")", sea.forced(1, i), due[i]);
+        }
+    }
+
+    /** Two of one day, the later number by the ship that comes first. */
+    private static void orderOfOneDay() {
+        TwoSeas sea = new TwoSeas();
+        sea.factory(1, 0, 20);
+        for (int i = 0; i < 2; i++) {
+            Check.write(sea, 1, "buy " + i + " 1;keep " + i);
+            sea.ship(0, 5);
+            sea.take();
+        }
+        sea.copy(1, 0);
+        sea.copy(0, 1);
+        sea.sail(0, 1);
+        sea.sail(1, 1);
+        sea.days(20);
+        int[] due = {0, 10, 11};
+        for (int i = 0; i < due.length; i++) {
+            Check.due("17 of one day, forced(1, " + i + ")", sea.forced(1, i), due[i]);
         }
     }
 

@@ -2,6 +2,7 @@
 public final class PlansTest {
     public static void main(String[] args) {
         heard();
+        heardByPaper0();
         heardLatestWritten();
         years();
         plans();
@@ -28,6 +29,22 @@ public final class PlansTest {
         Check.due("42 sort -1", sea.heard(1, -1, 50), -5);
         Check.due("42 day -1", sea.heard(1, 0, -1), -5);
         Check.due("42 day 0", sea.heard(1, 0, 0), -1);
+    }
+
+    /** The only report is paper 0, and the latest paper of all. */
+    private static void heardByPaper0() {
+        TwoSeas sea = new TwoSeas();
+        Check.due("12 a report", sea.letter(1, 0), 0);
+        Check.due("42 not known", sea.heard(1, 0, 9999), -1);
+        TwoSeas full = Check.atFactory(1000, "buy 0 1;lade 0 1 if day>20;sail 1");
+        for (int i = 1; i < 149; i++) {
+            full.letter(0, 1);
+        }
+        int report = full.letter(1, 0);
+        Check.due("12 the last paper", report, 149);
+        full.copy(report, 0);
+        full.days(40);
+        Check.due("42 by the last paper", full.heard(1, 0, 41), 1);
     }
 
     /** The report written later came first: the one that comes behind it tells nothing new. */

@@ -71,6 +71,7 @@ public final class SalesTest {
         Check.due("48 coins of all sales", sea.count(8), 185);
         Check.due("36 the house has the coins", sea.bullion(0, 0), 185);
         Check.due("37 another sort's want counts not", sea.bought(3, 0), 0);
+        Check.due("37 buyer 5", sea.bought(5, 0), 0);
         Check.due("37 buyer 6", sea.bought(6, 0), -1);
         Check.due("37 buyer -1", sea.bought(-1, 0), -1);
         Check.due("37 what 2", sea.bought(0, 2), -1);
@@ -79,11 +80,15 @@ public final class SalesTest {
         sea.wants(5, 1, 1, 0);
         Check.due("36 limits of 0", sea.sale(1, 2), 0);
         Check.due("36 are wants too", sea.stock(0, 1), 10);
+        sea.wants(0, 1, 1, 40);
+        sea.wants(1, 1, 1, 50);
+        Check.due("36 at the limit of buyer 0", sea.sale(1, 1), 40);
     }
 
     private static void shares() {
         TwoSeas sea = new TwoSeas();
-        Check.due("38 some", sea.shares(0, 7, 30), 130);
+        Check.due("38 one", sea.shares(0, 7, 1), 101);
+        Check.due("38 some", sea.shares(0, 7, 29), 130);
         Check.due("38 all that are left", sea.shares(0, 7, 70), 200);
         Check.due("41 none left", sea.holder(0, 0), 0);
         Check.due("38 from one that has none", sea.shares(0, 7, 1), -2);

@@ -12,6 +12,7 @@ public final class ShipsTest {
         ofShips();
         ofVoyages();
         beyond();
+        beyondOfTwenty();
         recounting();
         Check.end();
     }
@@ -99,6 +100,7 @@ public final class ShipsTest {
         Check.due("21 ashore it would be beyond", rich.load(0, -1), -2);
         Check.due("21 aboard up to the bound", rich.load(0, 99999999), 100000000);
         Check.due("21 aboard it would be beyond", rich.load(0, 1), -2);
+        Check.due("21 ashore up to the bound", rich.load(0, -99999999), 1);
     }
 
     private static void stowing() {
@@ -315,6 +317,16 @@ public final class ShipsTest {
         Check.due("26 stays", sea.voyage(1, 12), 7);
     }
 
+    private static void beyondOfTwenty() {
+        TwoSeas sea = Check.atFactory(1000, "buy 0 1;lade 0 1;sail 1 if day=21");
+        for (int i = 0; i < 20; i++) {
+            sea.person(1, i < 19 ? 0 : 9);
+        }
+        sea.stow(19, 0, 7);
+        sea.days(1);
+        Check.due("26 the twentieth has rights too", sea.voyage(1, 12), 3);
+    }
+
     private static void beyondOf(int rank, int tons, int due) {
         TwoSeas sea = Check.atFactory(1000, "buy 0 1;lade 0 1;sail 1 if day=21");
         sea.person(1, rank);
@@ -343,6 +355,10 @@ public final class ShipsTest {
         Check.due("27 joined again", sea.voyage(1, 11), 0);
         Check.due("27 another sort", sea.recount(1, 3, 99), 0);
         Check.due("27 each sort counts", sea.voyage(1, 11), 3);
+        Check.due("27 down to 0", sea.recount(1, 3, 0), 99);
+        Check.due("27 joined", sea.voyage(1, 11), 0);
+        Check.due("27 sort 0", sea.recount(1, 0, 1), 0);
+        Check.due("27 counts as the others do", sea.voyage(1, 11), 3);
         TwoSeas lost = Check.atFactory(1000, "buy 2 5;lade 2 5;sail 1");
         lost.lose(1);
         lost.days(20);
