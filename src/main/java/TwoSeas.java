@@ -1680,7 +1680,7 @@ public final class TwoSeas {
         }
 
         /** Runs the act's body of a kind, or of the next kind above that has one. */
-        int run(Paper paper, int kind, int act, int x, int depth) {
+        private int run(Paper paper, int kind, int act, int x, int depth) {
             int owner = kindWithBody(kind, act);
             if (owner < 0 || depth > DEEPEST) {
                 return 0;
