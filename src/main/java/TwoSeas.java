@@ -337,7 +337,8 @@ public final class TwoSeas {
         Place place = places[loaded.place];
         long aboard = (long) loaded.bullion + v;
         long ashore = (long) place.bullion - v;
-        if (aboard < 0 || ashore < 0 || v > 0 && aboard > MOST_BULLION || v < 0 && ashore > MOST_BULLION) {
+        // The bound is one of a PLACE: a SHIP carries whatever there is.
+        if (aboard < 0 || ashore < 0 || ashore > MOST_BULLION) {
             return BAD;
         }
         loaded.bullion += v;

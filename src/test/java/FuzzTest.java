@@ -19,6 +19,10 @@ public final class FuzzTest {
     private final PlainSeas plain = new PlainSeas();
     private final List<String> calls = new ArrayList<>();
     private boolean same = true;
+    /** Its coins come near the bound of a place, and ships carry beyond it. */
+    private boolean rich;
+    private int mostAboard;
+    private int placesBeyond;
     private final int[] placeOf = new int[20];
 
     private FuzzTest(int seed) {
@@ -35,13 +39,15 @@ public final class FuzzTest {
         TreeMap<String, Integer> reached = new TreeMap<>();
         for (int seed = 0; seed < runs; seed++) {
             FuzzTest run = new FuzzTest(seed);
+            run.rich = seed % 10 == 5;
             run.play(seed % 10 == 0);
             Check.holds("run " + seed + ": " + run.lastCalls(), run.same);
             run.count(reached);
         }
         for (String what : new String[] {"entries of act 0", "entries of act 1", "entries of act 2", "entries of act 3",
             "entries of act 4", "entries of act 5", "bills paid", "bills refused", "ships gone", "sales", "dividends",
-            "beyond", "joined 0", "joined 3", "heard", "plans"}) {
+            "beyond", "joined 0", "joined 3", "heard", "plans", "more aboard than a place may have",
+            "places beyond their bound"}) {
             Check.holds("the runs reach " + what, reached.getOrDefault(what, 0) > 0);
         }
         if (args.length > 0) {
@@ -66,9 +72,20 @@ public final class FuzzTest {
             }
             if (calls.size() % 32 == 0) {
                 lookAtAll();
+                lookAtCoins();
             }
         }
         lookAtAll();
+    }
+
+    private void lookAtCoins() {
+        for (int i = 0; i < count(2); i++) {
+            mostAboard = Math.max(mostAboard, call("shipOf", i, 4));
+        }
+        for (int p = 0; p < 5; p++) {
+            // Only a place that is beyond its bound refuses even nothing.
+            placesBeyond += call("bullion", p, 0) == -2 ? 1 : 0;
+        }
     }
 
     /** Calls both and compares. */
@@ -153,6 +170,12 @@ public final class FuzzTest {
             both("person", place(), up(10));
         }
         both("bullion", 0, random.nextInt(5000));
+        for (int i = 0; rich && i < 240; i++) {
+            both("bullion", i % 3 == 0 ? 1 : 0, 1000000);
+            if (i % 24 == 23) {
+                both("load", random.nextInt(2), from(0, 1000000 * i));
+            }
+        }
         for (int p = 1; p <= 4; p++) {
             int sort = random.nextInt(4);
             String first = "buy " + sort + " " + (1 + random.nextInt(5)) + ";lade " + sort + " 9;sail " + random.nextInt(4);
@@ -191,7 +214,7 @@ public final class FuzzTest {
             case 9: case 10: case 11: case 12: both("copy", paper, ship); break;
             case 13: both("ship", up(4), from(1, 60)); break;
             case 14: case 15: both("take"); break;
-            case 16: both("load", ship, from(-200, 400)); break;
+            case 16: both("load", ship, rich ? from(-60000000, 90000000) : from(-200, 400)); break;
             case 17: both("stow", up(count(0)), ship, up(6)); break;
             case 18: case 19: case 20: both("sail", ship, works()); break;
             case 21: if (random.nextInt(6) == 0) both("lose", up(count(3))); break;
@@ -382,6 +405,8 @@ public final class FuzzTest {
             reached.merge("heard", call("heard", p, 0, 9999) > 0 ? 1 : 0, Integer::sum);
             reached.merge("plans", call("plan", p, 200, 9000, 0) > 0 ? 1 : 0, Integer::sum);
         }
+        reached.merge("more aboard than a place may have", mostAboard > 100000000 ? 1 : 0, Integer::sum);
+        reached.merge("places beyond their bound", placesBeyond, Integer::sum);
         reached.merge("sales", count(8), Integer::sum);
         reached.merge("dividends", count(9), Integer::sum);
         reached.merge("days", count(4), Integer::sum);

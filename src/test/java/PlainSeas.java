@@ -318,8 +318,8 @@ final class PlainSeas {
             case "load":
                 if (s == null) return -1;
                 if (s.place < 0) return -3;
-                if (a[1] > 0 && (a[1] > bullion[s.place] || (long) s.bullion + a[1] > 100000000)) return -2;
-                if (a[1] < 0 && (-(long) a[1] > s.bullion || (long) bullion[s.place] - a[1] > 100000000)) return -2;
+                if (a[1] > bullion[s.place] || -(long) a[1] > s.bullion) return -2;
+                if ((long) bullion[s.place] - a[1] > 100000000) return -2;
                 bullion[s.place] -= a[1];
                 return s.bullion += a[1];
             case "stow":

@@ -4,6 +4,7 @@ public final class ShipsTest {
         ships();
         takingUp();
         loading();
+        loadingMuch();
         stowing();
         sailing();
         fullOfVoyages();
@@ -88,19 +89,50 @@ public final class ShipsTest {
         Check.due("21 from a factory", sea.load(0, 50), 50);
         Check.due("21 the factory has none", sea.bullion(2, 0), 0);
 
+    }
+
+    /** The bound of BULLION is one of a PLACE, not of a SHIP. */
+    private static void loadingMuch() {
         TwoSeas rich = new TwoSeas();
+        rich.factory(1, 0, 20);
+        rich.ship(0, 5);
         rich.ship(0, 5);
         rich.bullion(0, 1000000);
         rich.load(0, 1);
-        for (int i = 0; i < 99; i++) {
-            rich.bullion(0, 1000000);
-        }
+        giveMillions(rich, 0, 99);
         rich.bullion(0, 1);
         Check.due("21 the house is at its bound", rich.bullion(0, 0), 100000000);
         Check.due("21 ashore it would be beyond", rich.load(0, -1), -2);
-        Check.due("21 aboard up to the bound", rich.load(0, 99999999), 100000000);
-        Check.due("21 aboard it would be beyond", rich.load(0, 1), -2);
-        Check.due("21 ashore up to the bound", rich.load(0, -99999999), 1);
+        Check.due("21 nothing ashore", rich.load(0, 0), 1);
+        Check.due("21 aboard up to a place's bound", rich.load(0, 99999999), 100000000);
+        Check.due("21 aboard beyond a place's bound", rich.load(0, 1), 100000001);
+        Check.due("21 the house has none", rich.bullion(0, 0), 0);
+        Check.due("21 more than there is, when much is aboard", rich.load(0, 1), -2);
+        Check.due("21 all of it ashore would be beyond", rich.load(0, -100000001), -2);
+        Check.due("21 ashore up to the bound", rich.load(0, -100000000), 1);
+        Check.due("21 aboard again", rich.load(0, 100000000), 100000001);
+        giveMillions(rich, 0, 50);
+        Check.due("21 far beyond a place's bound", rich.load(0, 50000000), 150000001);
+        Check.due("21 the greatest number, when much is aboard", rich.load(0, Integer.MAX_VALUE), -2);
+        Check.due("21 the least number, when much is aboard", rich.load(0, Integer.MIN_VALUE), -2);
+        rich.take();
+        rich.take();
+        rich.sail(0, 1);
+        rich.sail(1, 1);
+        rich.days(20);
+        Check.due("21 all came", rich.shipOf(0, 4), 0);
+        Check.due("5 a place that is beyond by what came", rich.bullion(1, -1), -2);
+        Check.due("21 it would be beyond still", rich.load(0, 50000000), -2);
+        Check.due("21 it would be beyond, unchanged", rich.load(0, 0), -2);
+        Check.due("21 it is within again", rich.load(0, 50000001), 50000001);
+        Check.due("21 what is ashore", rich.bullion(1, 0), 100000000);
+        Check.due("21 the other ship", rich.load(1, 100000000), 100000000);
+    }
+
+    private static void giveMillions(TwoSeas sea, int p, int n) {
+        for (int i = 0; i < n; i++) {
+            sea.bullion(p, 1000000);
+        }
     }
 
     private static void stowing() {
