@@ -335,10 +335,7 @@ public final class TwoSeas {
             return STATE;
         }
         Place place = places[loaded.place];
-        long aboard = (long) loaded.bullion + v;
-        long ashore = (long) place.bullion - v;
-        // The bound is one of a PLACE: a SHIP carries whatever there is.
-        if (aboard < 0 || ashore < 0 || ashore > MOST_BULLION) {
+        if (!canMove(loaded, place, v)) {
             return BAD;
         }
         loaded.bullion += v;
@@ -882,6 +879,16 @@ public final class TwoSeas {
         ship.comes = comes;
         ship.latestVoyage = voyage.number;
         return voyage;
+    }
+
+    /** The bound is one of a PLACE, of what comes to it: a SHIP carries whatever there is. */
+    private static boolean canMove(Ship ship, Place place, int v) {
+        if (v >= 0) {
+            return v <= place.bullion;
+        }
+        // A long, as the least int has no opposite.
+        long ashore = -(long) v;
+        return ashore <= ship.bullion && place.bullion + ashore <= MOST_BULLION;
     }
 
     /** PRIVATE tons aboard beyond the rights of all who are at the factory now. */

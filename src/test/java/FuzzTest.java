@@ -23,6 +23,7 @@ public final class FuzzTest {
     private boolean rich;
     private int mostAboard;
     private int placesBeyond;
+    private int loadedWhereBeyond;
     private final int[] placeOf = new int[20];
 
     private FuzzTest(int seed) {
@@ -47,7 +48,7 @@ public final class FuzzTest {
         for (String what : new String[] {"entries of act 0", "entries of act 1", "entries of act 2", "entries of act 3",
             "entries of act 4", "entries of act 5", "bills paid", "bills refused", "ships gone", "sales", "dividends",
             "beyond", "joined 0", "joined 3", "heard", "plans", "more aboard than a place may have",
-            "places beyond their bound"}) {
+            "places beyond their bound", "loads where a place is beyond"}) {
             Check.holds("the runs reach " + what, reached.getOrDefault(what, 0) > 0);
         }
         if (args.length > 0) {
@@ -83,8 +84,7 @@ public final class FuzzTest {
             mostAboard = Math.max(mostAboard, call("shipOf", i, 4));
         }
         for (int p = 0; p < 5; p++) {
-            // Only a place that is beyond its bound refuses even nothing.
-            placesBeyond += call("bullion", p, 0) == -2 ? 1 : 0;
+            placesBeyond += isBeyond(p) ? 1 : 0;
         }
     }
 
@@ -214,7 +214,7 @@ public final class FuzzTest {
             case 9: case 10: case 11: case 12: both("copy", paper, ship); break;
             case 13: both("ship", up(4), from(1, 60)); break;
             case 14: case 15: both("take"); break;
-            case 16: both("load", ship, rich ? from(-60000000, 90000000) : from(-200, 400)); break;
+            case 16: both("load", ship, rich ? from(-60000000, 90000000) : from(-200, 400)); loadWhereBeyond(); break;
             case 17: both("stow", up(count(0)), ship, up(6)); break;
             case 18: case 19: case 20: both("sail", ship, works()); break;
             case 21: if (random.nextInt(6) == 0) both("lose", up(count(3))); break;
@@ -228,6 +228,22 @@ public final class FuzzTest {
             case 32: both("year", up(4), sort, up(60)); both("plan", works(), up(201), up(9000), up(5)); break;
             default: sheetsAndActs(paper); break;
         }
+    }
+
+    /** A little either way, at ships whose place is beyond its bound by what came. */
+    private void loadWhereBeyond() {
+        for (int ship = 0; rich && ship < count(2); ship++) {
+            int p = call("shipOf", ship, 0);
+            if (p >= 0 && isBeyond(p)) {
+                loadedWhereBeyond += both("load", ship, from(0, 3)) >= 0 ? 1 : 0;
+                both("load", ship, from(-3, 0));
+            }
+        }
+    }
+
+    /** Only a place that is beyond its bound refuses even nothing. */
+    private boolean isBeyond(int p) {
+        return call("bullion", p, 0) == -2;
     }
 
     /** What makes ships that are away come home with something aboard. */
@@ -407,6 +423,7 @@ public final class FuzzTest {
         }
         reached.merge("more aboard than a place may have", mostAboard > 100000000 ? 1 : 0, Integer::sum);
         reached.merge("places beyond their bound", placesBeyond, Integer::sum);
+        reached.merge("loads where a place is beyond", loadedWhereBeyond, Integer::sum);
         reached.merge("sales", count(8), Integer::sum);
         reached.merge("dividends", count(9), Integer::sum);
         reached.merge("days", count(4), Integer::sum);

@@ -319,7 +319,7 @@ final class PlainSeas {
                 if (s == null) return -1;
                 if (s.place < 0) return -3;
                 if (a[1] > bullion[s.place] || -(long) a[1] > s.bullion) return -2;
-                if ((long) bullion[s.place] - a[1] > 100000000) return -2;
+                if (a[1] < 0 && (long) bullion[s.place] - a[1] > 100000000) return -2;
                 bullion[s.place] -= a[1];
                 return s.bullion += a[1];
             case "stow":

@@ -5,6 +5,7 @@ public final class ShipsTest {
         takingUp();
         loading();
         loadingMuch();
+        loadingWhereBeyond();
         stowing();
         sailing();
         fullOfVoyages();
@@ -88,7 +89,6 @@ public final class ShipsTest {
         Check.due("21 none aboard", sea.load(0, 0), 0);
         Check.due("21 from a factory", sea.load(0, 50), 50);
         Check.due("21 the factory has none", sea.bullion(2, 0), 0);
-
     }
 
     /** The bound of BULLION is one of a PLACE, not of a SHIP. */
@@ -122,11 +122,37 @@ public final class ShipsTest {
         rich.days(20);
         Check.due("21 all came", rich.shipOf(0, 4), 0);
         Check.due("5 a place that is beyond by what came", rich.bullion(1, -1), -2);
-        Check.due("21 it would be beyond still", rich.load(0, 50000000), -2);
-        Check.due("21 it would be beyond, unchanged", rich.load(0, 0), -2);
-        Check.due("21 it is within again", rich.load(0, 50000001), 50000001);
+        Check.due("21 nothing, where a place is beyond", rich.load(0, 0), 0);
+        Check.due("21 aboard, the place beyond still", rich.load(0, 49999999), 49999999);
+        Check.due("21 nothing, where it is beyond still", rich.load(0, 0), 49999999);
+        Check.due("21 ashore it would be beyond further", rich.load(0, -1), -2);
+        Check.due("21 more than a place that is beyond has", rich.load(1, 100000003), -2);
+        Check.due("5 it is beyond by 2", rich.bullion(1, -1), -2);
+        Check.due("21 aboard, the place within again", rich.load(0, 2), 50000001);
         Check.due("21 what is ashore", rich.bullion(1, 0), 100000000);
+        Check.due("21 ashore at the bound", rich.load(0, -1), -2);
         Check.due("21 the other ship", rich.load(1, 100000000), 100000000);
+        Check.due("21 ashore has none", rich.bullion(1, 0), 0);
+    }
+
+    /** What a SHIP brings is not told by hand: a PLACE that is beyond gives all that it has. */
+    private static void loadingWhereBeyond() {
+        TwoSeas sea = new TwoSeas();
+        sea.ship(0, 1);
+        sea.take();
+        sea.bullion(0, 2);
+        sea.load(0, 2);
+        giveMillions(sea, 1, 100);
+        sea.sail(0, 1);
+        sea.days(120);
+        Check.due("21 more than all", sea.load(0, 100000003), -2);
+        Check.due("21 one ashore, none aboard", sea.load(0, -1), -2);
+        Check.due("21 one aboard", sea.load(0, 1), 1);
+        Check.due("21 one ashore again", sea.load(0, -1), -2);
+        Check.due("21 all of it aboard", sea.load(0, 100000001), 100000002);
+        Check.due("21 nothing is left", sea.bullion(1, 0), 0);
+        Check.due("21 one too many ashore", sea.load(0, -100000001), -2);
+        Check.due("21 ashore up to the bound", sea.load(0, -100000000), 2);
     }
 
     private static void giveMillions(TwoSeas sea, int p, int n) {
