@@ -1170,12 +1170,15 @@ public final class TwoSeas {
 
     /** What the lots bring in the year that brings least, by single bales of each lot. */
     private int worstYear(int a, int b, int c, int d) {
-        int worst = Integer.MAX_VALUE;
-        for (int y = 0; y < YEARS; y++) {
-            int[] bale = brings[y];
-            worst = Math.min(worst, a * bale[0] + b * bale[1] + c * bale[2] + d * bale[3]);
+        int worst = lotsBring(brings[0], a, b, c, d);
+        for (int y = 1; y < YEARS; y++) {
+            worst = Math.min(worst, lotsBring(brings[y], a, b, c, d));
         }
         return worst;
+    }
+
+    private static int lotsBring(int[] bale, int a, int b, int c, int d) {
+        return a * bale[0] + b * bale[1] + c * bale[2] + d * bale[3];
     }
 
     /** Only more is better: of several the first one stays. */
@@ -1450,6 +1453,7 @@ public final class TwoSeas {
         final boolean negated;
         final int field;
         final int sort;
+        /** Below 0 for less, 0 for the same, above 0 for more. */
         final int sign;
         final int number;
 
@@ -1463,7 +1467,8 @@ public final class TwoSeas {
         }
 
         boolean isMetBy(int value) {
-            return (Integer.compare(value, number) == sign) != negated;
+            boolean met = sign < 0 ? value < number : sign > 0 ? value > number : value == number;
+            return met != negated;
         }
     }
 

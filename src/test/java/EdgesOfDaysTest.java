@@ -561,6 +561,27 @@ public final class EdgesOfDaysTest {
                 count(5) -> 0
                 entry(0, 0) -> -5
                 """);
+        Script.edge("29: how many of that time, beside what STOCK had; the PAPER and PARAGRAPH", "3 times letter(0, 1)",
+                Script.atFactory(1000, "keep 0;buy 2 3", 3), """
+                days(1)
+                stock(1, 2) -> 6
+                entry(1, 0) -> 21
+                entry(1, 4) -> 3
+                entry(1, 5) -> 60
+                entry(1, 6) -> 3
+                entry(1, 7) -> 1
+                """);
+        Script.edge("29: of a COUNCIL its CONSULT, the second one's too", """
+                person(1, 0)
+                person(1, 0)
+                bullion(1, 100)
+                council(1, 2, 1, 1, 2) -> 20
+                council(1, 2, 2, 1, 2) -> 40
+                stock(1, 2) -> 3
+                entry(1, 4) -> 2
+                entry(1, 6) -> 2
+                entry(1, 7) -> -1
+                """);
         Script.edge("29: of a COUNCIL its CONSULT, and -1", """
                 person(1, 0)
                 person(1, 0)

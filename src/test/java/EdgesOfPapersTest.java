@@ -510,6 +510,16 @@ public final class EdgesOfPapersTest {
                 forced(1, 1) -> 2
                 forced(1, 2) -> 10
                 """);
+        Script.edge("16: another ACT of another SORT stays",
+                two("buy 1 1;advance 2 1;lade 3 1;keep 1", "advance 0 1;lade 1 1;buy 3 1;sail 1;draw 1"), """
+                force(1) -> 9
+                forced(1, 0) -> 0
+                forced(1, 1) -> 1
+                forced(1, 2) -> 2
+                forced(1, 3) -> 3
+                forced(1, 4) -> 10
+                forced(1, 8) -> 14
+                """);
         Script.edge("16: an ACT without a SORT", two("keep 1;sail 1;draw 1;buy 0 1", "draw 2;keep 2"), """
                 force(1) -> 4
                 forced(1, 0) -> 1

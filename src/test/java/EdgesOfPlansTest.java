@@ -7,6 +7,7 @@ public final class EdgesOfPlansTest {
         heardFromWhichDay();
         heardLatest();
         heardOfOneDay();
+        heardByFirstAndLastPaper();
         noReports();
         years();
         planNumbers();
@@ -133,6 +134,24 @@ public final class EdgesOfPlansTest {
                 """);
     }
 
+    private static void heardByFirstAndLastPaper() {
+        Script.edge("42: the REPORT is PAPER 0", "letter(1, 0) -> 0",
+                Script.atFactory(1000, "buy 0 2;lade 0 1;sail 1 if day=21", 1), """
+                copy(0, 0)
+                days(20)
+                heard(1, 0, 41) -> -1
+                days(1)
+                heard(1, 0, 41) -> 0
+                """);
+        Script.edge("42: the REPORT is PAPER 149", Script.atFactory(1000, "buy 0 2;lade 0 1;sail 1 if day=21"), """
+                148 times letter(1, 2) -> 148
+                letter(1, 0) -> 149
+                copy(149, 0)
+                days(21)
+                heard(1, 0, 41) -> 1
+                """);
+    }
+
     /** Of a FACTORY for the HOUSE: no other LETTER, and nothing under LETTER, is a REPORT. */
     private static void noReports() {
         Script.edge("42: -1 none: what is no REPORT", "bullion(1, 1000)\nperson(1, 0)",
@@ -254,6 +273,17 @@ public final class EdgesOfPlansTest {
                 plan(1, 50, 1000000, 1) -> 5
                 plan(1, 49, 1000000, 1) -> 4
                 """);
+        for (int sort = 0; sort < 4; sort++) {
+            int[] bySort = {20, 20, 20, 20};
+            bySort[sort] = 25;
+            int[] due = {50, 0, 0, 0, 0};
+            due[1 + sort] = 1;
+            Script.edge("44: of each SORT: what " + sort + " brings", brings(bySort), plan(10, 1000, due));
+            due[0] = 10;
+            Script.edge("44: of each SORT: what " + sort + " costs", brings(20, 20, 20, 20),
+                    "base(1, " + sort + ", 19)\n", plan(10, 1000, due), "base(1, " + sort + ", 21)\n",
+                    plan(200, 1000000, 0, 0, 0, 0, 0));
+        }
         Script.edge("44: by BASE, not by PRICE: HEAT does not matter", brings(21, 0, 0, 0), """
                 person(1, 0)
                 bullion(1, 1000)

@@ -269,6 +269,14 @@ public final class EdgesOfSalesTest {
                 gain() -> -40
                 count(5) -> 6
                 """);
+        Script.edge("39: without an INVOICE nothing is known, of DAY 0 neither", """
+                person(1, 0)
+                bullion(1, 100)
+                council(1, 0, 1, 1, 0) -> 20
+                gain() -> 0
+                letter(1, 0) -> 1
+                gain() -> 0
+                """);
         Script.edge("39: of one that is LOST nothing is KNOWN", Script.atFactory(1000, "buy 0 1;lade 0 1;sail 1"), """
                 lose(1) -> 1
                 days(20)
@@ -363,6 +371,10 @@ public final class EdgesOfSalesTest {
                 shares(6, 0, 100)
                 shares(7, 0, 100) -> 800
                 divide(1) -> 1
+                shares(0, 1, 1) -> 1
+                # 799 of 800 by 1 coin is nothing
+                divide(1) -> 0
+                shares(1, 0, 1) -> 800
                 divide(469) -> 469
                 gain() -> 0
                 divide(1) -> -2

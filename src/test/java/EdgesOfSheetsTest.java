@@ -5,6 +5,7 @@ public final class EdgesOfSheetsTest {
         wrapping();
         noActs();
         traces();
+        bodies();
         kinds();
         counts();
         countsOfWhatWas();
@@ -136,6 +137,32 @@ public final class EdgesOfSheetsTest {
                 trace(8) -> -1
                 count(10) -> 8
                 """);
+    }
+
+    /** The body of the PAPER's KIND, or of the next KIND above that has one: of each KIND, with d 20 and x 1000. */
+    private static void bodies() {
+        String papers = "person(1, 3)\nperson(1, 2)\n" + Script.atFactory(20, "draw 77;buy 0 1;lade 0 1;sail 1")
+                + "letter(1, 0) -> 3\ncouncil(1, 0, 1, 1, 2)\n";
+        int[][][] due = {
+            // ORDER 0, BILL 1, INVOICE 2, LETTER 3, CONSULT 4, DISSENT 5: binds, travels, owes, each with its bodies
+            {{3000, 30, 10}, {6000, 20, 11, 30, 10}, {6000 ^ 3000, 12, 20, 11, 30, 10, 30, 10}},
+            {{1001, 10}, {2001 ^ 9, 60, 20, 11, 10}, {((2001 ^ 9 ^ 1021) + 1) * 2, 61, 50, 12, 60, 20, 11, 10, 10}},
+            {{1002, 10}, {2002, 20, 11, 10}, {(2002 ^ 1022) + 2, 50, 12, 20, 11, 10, 10}},
+            {{1003, 10}, {2003, 20, 11, 10}, {2003 ^ 1023, 12, 20, 11, 10, 10}},
+            {{1004, 10}, {2004, 20, 11, 10}, {2002 ^ 1023, 40, 12, 20, 11, 10, 10}},
+            {{985, 70, 10}, {1965, 20, 11, 70, 10}, {1963 ^ 1004, 40, 12, 20, 11, 70, 10, 70, 10}},
+        };
+        for (int paper = 0; paper < due.length; paper++) {
+            for (int act = 0; act < 3; act++) {
+                int[] row = due[paper][act];
+                StringBuilder rows = new StringBuilder("act(" + paper + ", " + act + ", 1000) -> " + row[0] + "\n");
+                for (int i = 1; i < row.length; i++) {
+                    rows.append("trace(").append(i - 1).append(") -> ").append(row[i]).append('\n');
+                }
+                rows.append("trace(").append(row.length - 1).append(") -> -1\ncount(10) -> ").append(row.length - 1);
+                Script.edge("45, 46: act " + act + " of PAPER " + paper, papers, rows.toString());
+            }
+        }
     }
 
     private static void kinds() {

@@ -720,6 +720,13 @@ public final class EdgesOfShipsTest {
                 days(1)
                 voyage(1, 12) -> 1
                 """);
+        Script.edge("26: the rights of all twenty", begin, """
+                19 times person(1, 0) -> 18
+                person(1, 9) -> 19
+                stow(19, 0, 7) -> 7
+                days(1)
+                voyage(1, 12) -> 3
+                """);
         Script.edge("26: of one who went away the tons count, the right does not", begin, """
                 person(1, 9) -> 0
                 stow(0, 0, 6) -> 6

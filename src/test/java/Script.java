@@ -90,6 +90,11 @@ final class Script {
                 + ordered(order, 1, paper) + "copy(" + paper + ", 0)\nsail(0, 1)\ndays(20)\n";
     }
 
+    /** The names of all calls. */
+    static List<String> names() {
+        return new ArrayList<>(METHODS.keySet());
+    }
+
     static int make(TwoSeas sea, String name, int... args) {
         Method method = METHODS.get(name);
         if (method == null || method.getParameterCount() != args.length) {

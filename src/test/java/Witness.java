@@ -238,9 +238,11 @@ final class Witness {
         }
         for (int p = 1; p < 5; p++) {
             put("bullion", p, 2000);
-            for (int yes = 0; yes < 16; yes++) {
-                put("council", p, 0, 2, yes, 15 ^ yes);
-                put("council", p, 1, 1, yes, 0);
+            for (int one = 0; one < 4; one++) {
+                put("council", p, 1, 1, 1 << one, 0);
+                for (int other = 0; other < 4; other++) {
+                    put("council", p, 0, 1, 1 << one, 1 << other);
+                }
             }
         }
         put("count", 1);
