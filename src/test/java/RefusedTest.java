@@ -2,8 +2,9 @@ import java.util.ArrayList;
 import java.util.List;
 
 /**
- * "What is answered so changes nothing": every call that can be refused, by each of its refusals, on an object that
- * has something of all that there is, so that whatever a refused call would change shows.
+ * "What is answered so changes nothing": every call that can be refused, by its refusals, on an object that has
+ * something of all that there is, so that whatever a refused call would change shows. (The 99th VOYAGE, DAY 2999 and
+ * BULLION of 100000000 need long runs of their own: EdgesOfShipsTest, EdgesOfDaysTest and EdgesOfPlacesTest have them.)
  */
 public final class RefusedTest {
     public static void main(String[] args) {
