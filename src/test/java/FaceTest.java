@@ -45,7 +45,12 @@ public final class FaceTest {
             int modifiers = inside.getModifiers();
             Check.holds(inside + " is static", Modifier.isStatic(modifiers));
             Check.holds(inside + " is not public", !Modifier.isPublic(modifiers) && !Modifier.isProtected(modifiers));
+            for (Method method : inside.getDeclaredMethods()) {
+                Check.holds(method + " has a name of its own", !names.contains(method.getName()));
+            }
+            fieldsAreFew(inside);
         }
+        fieldsAreFew(TwoSeas.class);
         Check.end();
     }
 
@@ -68,6 +73,14 @@ public final class FaceTest {
             Check.due(names[i], field.getInt(null), -1 - i);
             Check.holds(names[i] + " is an int", field.getType() == int.class);
         }
+    }
+
+    private static void fieldsAreFew(Class<?> owner) {
+        int fields = 0;
+        for (Field field : owner.getDeclaredFields()) {
+            fields += Modifier.isStatic(field.getModifiers()) ? 0 : 1;
+        }
+        Check.holds(owner + " has twenty fields at most, not " + fields, fields <= 20);
     }
 
     private static void constructors() {
